@@ -148,11 +148,11 @@ public final class FairwayChancery {
         }
 
         boolean isFreeGround(int cell) {
-            return outcomeAt(cell) == GROUND;
+            return kindOf(cell) == GROUND && cell != cup;
         }
 
         boolean isFreeFrom(int lie, int cell) {
-            return isFreeGround(cell) && !isNearerCup(cell, lie);
+            return kindOf(cell) == GROUND && cell != cup && distance(cell, cup) >= distance(lie, cup);
         }
 
         /** Cells are looked at by y, then x, so that of several the first one stays. */
@@ -228,11 +228,6 @@ public final class FairwayChancery {
         boolean isRightSpotTee;
         int rightStrokes;
         int rightPenalties;
-
-        Ball() {
-            state = NOT_BEGUN;
-            provisional = NO_BALL;
-        }
 
         void startAt(int tee) {
             state = NOT_BEGUN;
@@ -574,11 +569,14 @@ public final class FairwayChancery {
         }
 
         void restart() {
-            outOfOrder = NONE;
             upBy = 0;
             counted = 0;
-            isHoleConceded = false;
             isConceded = false;
+        }
+
+        void forgetHole() {
+            outOfOrder = NONE;
+            isHoleConceded = false;
         }
 
         /** A hole that was conceded has counted at once. */
@@ -937,7 +935,6 @@ public final class FairwayChancery {
         if (!ball.isBreach) {
             throw new UnsupportedOperationException("there is nothing to be corrected");
         }
-        match.outOfOrder = NONE;
         ball.putRightly();
         return ball.scoreSoFar();
     }
@@ -1060,7 +1057,6 @@ public final class FairwayChancery {
             startHole(holeNow + 1);
             return holeNow;
         }
-        match.outOfOrder = NONE;
         isOn = false;
         return holeCount;
     }
@@ -1398,7 +1394,7 @@ public final class FairwayChancery {
     }
 
     private void needMatch() {
-        if (!isBegun || !isMatch()) {
+        if (!isMatch()) {
             throw new UnsupportedOperationException("there is no match");
         }
     }
@@ -1528,8 +1524,7 @@ public final class FairwayChancery {
 
     private void startHole(int hole) {
         holeNow = hole;
-        match.outOfOrder = NONE;
-        match.isHoleConceded = false;
+        match.forgetHole();
         for (int i = 0; i < playerCount; i++) {
             players[i].ball.startAt(holes[hole].tee);
         }

@@ -18,6 +18,7 @@ public final class CardTest {
         cuts();
         penaltyShares();
         meanScores();
+        nineHolesOfSix();
         Check.end();
     }
 
@@ -159,6 +160,8 @@ public final class CardTest {
         Check.same("40: not signed", x.write(1, 1, 6), 5);
         x.sign(0);
         Check.unsupported("40: signed", () -> x.sign(0));
+        FairwayChancery first = round(new int[] {0, 2});
+        Check.missing("40: no score on the first hole", () -> first.sign(0));
         FairwayChancery y = Play.shortHoles(1, 1);
         y.begin('s');
         Play.to(y, 0, 8, 10);
@@ -332,6 +335,15 @@ public final class CardTest {
         Check.no("47: the last hole", x.isAhead(0, 4));
         Check.yes("47: the last third ahead of the last hole", x.isAhead(3, 4));
         Check.no("47: oneself", x.isAhead(0, 0));
+        FairwayChancery half = signed(new int[] {3, 2, 2, 1, 2, 2, 2}, new int[] {2, 2, 2, 3, 1, 2, 2},
+                new int[] {3, 3, 2, 2, 1, 2, 1}, new int[] {2, 2, 3, 3, 1, 1, 2});
+        Check.yes("47: the last half, the last third alike", half.isAhead(1, 0));
+        Check.no("47: the last half, the last third alike", half.isAhead(0, 1));
+        Check.no("47: the last half and third alike", half.isAhead(3, 2));
+        Check.yes("47: the last half and third alike", half.isAhead(2, 3));
+        FairwayChancery turned = signed(new int[] {3, 2, 2, 2, 1, 2, 2}, new int[] {2, 2, 2, 2, 4, 1, 1});
+        Check.yes("47: the last half ahead of the last third", turned.isAhead(0, 1));
+        Check.no("47: the last half ahead of the last third", turned.isAhead(1, 0));
         FairwayChancery y = signed(new int[] {1, 1, 1, 1, 1, 1, 4}, new int[] {2, 2, 2, 2, 1, 1, 1});
         Check.yes("47: the sum first", y.isAhead(0, 1));
         Check.no("47: the sum first", y.isAhead(1, 0));
@@ -408,6 +420,50 @@ public final class CardTest {
         Check.same("55: whatever is written", x.penaltyShare(0), 1f / 7f);
         x.begin('s');
         Check.arithmetic("55: a new round", () -> x.penaltyShare(0));
+        FairwayChancery y = Play.shortHoles(2, 1);
+        y.begin('s');
+        Play.holeOut(y, 1);
+        Play.to(y, 0, 8, 10);
+        y.again(0);
+        Play.holeOut(y, 1);
+        y.begin('s');
+        Play.holeOut(y, 2);
+        Check.same("55: of this round", y.penaltyShare(0), 0f);
+    }
+
+    /** The course is as large as it can be, and every row as full. */
+    private static void nineHolesOfSix() {
+        FairwayChancery x = Play.shortHoles(9, 6);
+        x.setHandicap(5, 36);
+        x.begin('s');
+        for (int hole = 0; hole < 9; hole++) {
+            Play.holeOut(x, 2, 3, 2, 2, 0, 3);
+        }
+        for (int i = 0; i < 6; i++) {
+            boolean isNone = i == 4;
+            int player = i;
+            if (isNone) {
+                Check.missing("40: none", () -> x.sign(player));
+                Check.missing("41: none", () -> x.total(player));
+                Check.arithmetic("55: none", () -> x.penaltyShare(player));
+            } else {
+                Check.yes("40: nine holes", x.sign(player));
+                Check.same("41: nine holes", x.total(player), i % 5 == 1 || i == 5 ? 27 : 18);
+                Check.same("55: nine holes", x.penaltyShare(player), 0f);
+            }
+        }
+        Check.same("46: nine holes", x.rank(0) * 100 + x.rank(1) * 10 + x.rank(5), 144);
+        Check.same("42: nine holes", x.stableford(5), 9 * 7);
+        Check.same("43: nine holes", x.parPlay(4), -9);
+        Check.same("44: nine holes", x.together(4, 1), 27);
+        Check.same("45: nine holes", x.skins(5), 9);
+        Check.same("48: nine holes", x.cut(6), 5);
+        Check.same("50: nine holes", x.post(5, 270, 113), 0);
+        Check.same("56: nine holes", x.meanScore(8), 12.0 / 5.0);
+        Check.yes("57: nine holes", x.isSound());
+        Check.no("47: nine holes", x.isAhead(0, 2));
+        Check.bounds("2: a tenth hole", () -> x.kindAt(9, 0, 0));
+        Check.bounds("5: a seventh player", () -> x.together(6, 0));
     }
 
     private static void meanScores() {

@@ -141,7 +141,12 @@ public final class HandicapTest {
 
     private static void differences() {
         FairwayChancery x = poster();
-        Check.bounds("51: no such player", () -> x.difference(1, 0));
+        for (int player : new int[] {1, -1, 6, Integer.MAX_VALUE}) {
+            Check.bounds("51: no such player", () -> x.difference(player, 0));
+            Check.bounds("50: no such player", () -> x.post(player, 300, 113));
+            Check.bounds("52: no such player", () -> x.index(player));
+            Check.bounds("53: no such player", () -> x.lowIndex(player));
+        }
         Check.bounds("51: none", () -> x.difference(0, 0));
         Check.bounds("52: no such player", () -> x.index(1));
         Check.bounds("53: no such player", () -> x.lowIndex(-1));

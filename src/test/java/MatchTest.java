@@ -267,6 +267,8 @@ public final class MatchTest {
         x.begin('m');
         Check.no("38: a new one", x.isMatchOver());
         Check.same("37: a new one", x.up(), 0);
+        Play.holeOut(x, 1, 2);
+        Check.no("38: a new one, 1 up with 1 left", x.isMatchOver());
     }
 
     private static void concedeRefused() {

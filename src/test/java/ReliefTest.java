@@ -228,6 +228,9 @@ public final class ReliefTest {
         Play.to(near, 0, 15, 10);
         Play.to(near, 0, 24, 10);
         pointIs(near, 25, 9, "20: beside the cup, not the cup");
+        corner(28, 19, 0, 0, "20: from corner to corner");
+        corner(0, 19, 29, 0, "20: from corner to corner");
+        corner(0, 0, 29, 19, "20: from corner to corner");
         FairwayChancery tie = Play.flat(1);
         tie.area(0, 'w', 25, 13, 25, 13);
         tie.area(0, 'b', 25, 14, 25, 14);
@@ -239,6 +242,28 @@ public final class ReliefTest {
         tie.suspend(true);
         pointIs(tie, 24, 13, "20: suspended");
         Check.same("20: nothing counted", tie.penalties(0), 0);
+    }
+
+    /** A hole without ground but in one corner, the ball beside another one, and the cup between them. */
+    private static void corner(int lieX, int lieY, int pointX, int pointY, String what) {
+        FairwayChancery x = new FairwayChancery();
+        x.hole(4, 1, lieX > 14 ? 15 : 14, lieY == 0 ? 9 : 10, 14, lieY == 0 ? 5 : 14);
+        x.area(0, 'w', 0, 0, 29, 19);
+        x.area(0, '.', pointX, pointY, pointX, pointY);
+        x.player();
+        x.begin('s');
+        for (int i = 0; i < 2; i++) {
+            int dx = Math.max(-8, Math.min(8, lieX - x.lie(0, true)));
+            int dy = Math.max(-6, Math.min(6, lieY - x.lie(0, false)));
+            Play.to(x, 0, x.lie(0, true) + dx, x.lie(0, false) + dy);
+        }
+        Play.lies(x, 0, lieX, lieY, what);
+        if (lieX == 28) {
+            Play.to(x, 0, 29, 19);
+        }
+        Check.same(what + ": x", x.point(0, true), pointX);
+        Check.same(what + ": y", x.point(0, false), pointY);
+        Check.yes("57: " + what, x.isSound());
     }
 
     private static void pointRefused() {
@@ -515,6 +540,27 @@ public final class ReliefTest {
         Play.lies(x, 0, 6, 12, "23: the spot of then");
         Play.to(x, 0, 0, 12, 1, -1, 0);
         Check.same("16: no provisional ball any more", x.search(0), 'x');
+        FairwayChancery lost = Play.shortHoles(1, 1);
+        lost.begin('s');
+        Play.to(lost, 0, 8, 10);
+        lost.wrongPlace(0, 12, 10);
+        Play.to(lost, 0, 13, 19, 1, 0, 1);
+        lost.setSeed(Play.seedFor(1, 0, 0));
+        lost.provisional(0, 12, 12);
+        lost.correct(0);
+        Play.to(lost, 0, 8, 0, 1, 0, -1);
+        Check.same("16: nor for the next search", lost.search(0), 'x');
+        FairwayChancery tee = new FairwayChancery();
+        tee.hole(4, 1, 13, 10, 11, 10);
+        tee.player();
+        tee.begin('s');
+        Play.to(tee, 0, 3, 10);
+        Check.yes("22: in the cell of the tee", tee.wrongPlace(0, 11, 10));
+        Play.to(tee, 0, 12, 12);
+        tee.again(0);
+        Check.unsupported("18: on the tee", () -> tee.line(0, 1));
+        Check.same("23: off the tee again", tee.correct(0), 3);
+        Check.same("18: off the tee again", tee.line(0, 1), 4);
         FairwayChancery y = Play.shortHoles(1, 1);
         y.begin('s');
         Play.to(y, 0, 8, 10);

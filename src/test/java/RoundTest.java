@@ -21,6 +21,7 @@ public final class RoundTest {
         pickUps();
         suspends();
         nextHoles();
+        ballsAnew();
         statesOfBalls();
         Check.end();
     }
@@ -519,6 +520,11 @@ public final class RoundTest {
         Check.same("16: lost", Play.search(x, 0, true), 'l');
         Check.same("16: 1 stroke and 1 penalty", x.strokes(0) * 10 + x.penalties(0), 41);
         Play.lies(x, 0, 12, 12, "16: the provisional ball");
+        FairwayChancery used = sought();
+        provisional(used, 14, 12, 0, 0);
+        used.search(0);
+        Play.to(used, 0, 14, 10);
+        Check.same("15: another one, sought again", provisional(used, 14, 11, 0, 0), 'l');
         Check.same("16: the spot stays", x.again(0), 6);
         Play.lies(x, 0, 11, 6, "16: the spot stays");
         FairwayChancery gone = sought();
@@ -601,6 +607,25 @@ public final class RoundTest {
         x.pickUp(1);
         Check.same("30: all holes", x.nextHole(), 3);
         Check.state("30: over", () -> x.nextHole());
+    }
+
+    /** Nothing of a ball goes over to the next hole. */
+    private static void ballsAnew() {
+        FairwayChancery x = Play.shortHoles(2, 2);
+        x.begin('s');
+        Play.to(x, 0, 0, 10, 1, -1, 0);
+        provisional(x, 12, 12, 0, 0);
+        x.pickUp(0);
+        Play.to(x, 1, 8, 10);
+        x.wrongPlace(1, 12, 10);
+        x.pickUp(1);
+        x.nextHole();
+        Check.same("30: 32: the tee", x.lie(0, true), 3);
+        Play.to(x, 0, 0, 10, 1, -1, 0);
+        Check.same("30: no provisional ball", provisional(x, 12, 12, 0, 0), 'l');
+        Play.to(x, 1, 13, 10);
+        Check.same("30: no wrong place", x.penalties(1), 0);
+        Check.no("35: no breach", x.isOut(1));
     }
 
     private static void statesOfBalls() {
