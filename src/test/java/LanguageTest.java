@@ -29,6 +29,7 @@ public final class LanguageTest {
         words(text, code);
         names(code);
         methods(code);
+        depth(code);
         members();
         face(Files.readString(DOC));
         Check.end();
@@ -95,6 +96,42 @@ public final class LanguageTest {
             }
         }
         Check.yes("all methods were seen to end", start < 0);
+    }
+
+    /** Calls of own methods, by their names; none calls itself, and the longest chain is short. */
+    private static void depth(String code) {
+        TreeMap<String, String> bodies = new TreeMap<>();
+        Matcher head = Pattern.compile("\n {4,8}(?:[a-z]+ )*?(?:\\w+(?:\\[\\])? )?(\\w+)\\([^;{}]*\\)[^;{}]*\\{").matcher(code);
+        int from = 0;
+        String name = null;
+        while (head.find()) {
+            if (!Set.of("for", "if", "while", "switch").contains(head.group(1))) {
+                if (name != null) {
+                    bodies.merge(name, code.substring(from, head.start()), String::concat);
+                }
+                name = head.group(1);
+                from = head.end();
+            }
+        }
+        bodies.merge(name, code.substring(from), String::concat);
+        Check.yes("methods were found", bodies.size() > 150);
+        for (String start : bodies.keySet()) {
+            Check.yes("the calls below " + start, longest(start, bodies, 0) <= 8);
+        }
+    }
+
+    private static int longest(String name, TreeMap<String, String> bodies, int above) {
+        if (above > 20) {
+            return 1000;
+        }
+        int most = 0;
+        Matcher call = Pattern.compile("\\b(?<!new )(\\w+)\\(").matcher(bodies.get(name));
+        while (call.find()) {
+            if (bodies.containsKey(call.group(1)) && !call.group(1).matches("[A-Z].*")) {
+                most = Math.max(most, longest(call.group(1), bodies, above + 1));
+            }
+        }
+        return 1 + most;
     }
 
     private static void members() {
