@@ -147,10 +147,7 @@ public final class FairwayChancery {
             return kindOf(lie) != 'y' && distance(lie, cell) <= 4 && !isNearerCup(cell, lie) && isOpenForPenalty(cell);
         }
 
-        boolean isFreeGround(int cell) {
-            return kindOf(cell) == GROUND && cell != cup;
-        }
-
+        /** Whether a cell is ground that is no nearer the cup than another one. */
         boolean isFreeFrom(int lie, int cell) {
             return kindOf(cell) == GROUND && cell != cup && distance(cell, cup) >= distance(lie, cup);
         }
@@ -893,15 +890,16 @@ public final class FairwayChancery {
         Ball ball = players[player].ball;
         Hole hole = holes[holeNow];
         int cell = cellAt(x, y);
-        if (!isOnFreeKind(ball) || !hole.isFreeGround(cell)) {
-            throw new UnsupportedOperationException("no relief without a penalty there");
+        if (!isOnFreeKind(ball)) {
+            throw new UnsupportedOperationException("no relief without a penalty");
         }
+        // What cells are allowed follows from the point alone, so without one this is not asked.
         int point = hole.nearestPoint(ball.cell);
-        if (point != NONE && (distance(point, cell) > 1 || hole.isNearerCup(cell, point))) {
-            throw new UnsupportedOperationException("the cell is not allowed");
-        }
         if (point == NONE) {
             throw new NoSuchElementException("there is no point");
+        }
+        if (!hole.isFreeFrom(point, cell) || distance(point, cell) > 1) {
+            throw new UnsupportedOperationException("the cell is not allowed");
         }
         char before = hole.kindOf(ball.cell);
         match.outOfOrder = NONE;

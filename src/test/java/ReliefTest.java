@@ -334,7 +334,8 @@ public final class ReliefTest {
         Check.unsupported("21: the cup", () -> cup.free(0, 25, 10));
         FairwayChancery none = lying('s', "p 0 0 29 19", ". 20 6 29 14");
         Check.missing("21: there is no point", () -> none.free(0, 20, 10));
-        Check.unsupported("21: neither point nor ground", () -> none.free(0, 12, 10));
+        Check.missing("21: there is no point, whatever the cell", () -> none.free(0, 12, 10));
+        Check.missing("21: there is no point, whatever the cell", () -> none.free(0, 25, 10));
         FairwayChancery wrong = lying('s', "w 13 10 13 12");
         wrong.wrongPlace(0, 13, 12);
         Check.unsupported("21: in a wrong place", () -> wrong.free(0, 13, 9));
