@@ -181,11 +181,12 @@ public final class FairwayChancery {
 
         int pointAtDistance(int lie, int far) {
             int dx = 0;
-            for (int dy = 1 - HEIGHT; dy < HEIGHT; dy++) {
+            for (int y = 0; y < HEIGHT; y++) {
+                int dy = y - lie / WIDTH;
                 int rest = far - dy * dy;
                 if (rest >= 0) {
                     dx = rootFrom(dx, rest);
-                    int found = dx * dx == rest ? pointInRow(lie, dx, dy) : NONE;
+                    int found = dx * dx == rest ? pointInRow(lie, dx, y) : NONE;
                     if (found != NONE) {
                         return found;
                     }
@@ -194,9 +195,8 @@ public final class FairwayChancery {
             return NONE;
         }
 
-        int pointInRow(int lie, int dx, int dy) {
+        int pointInRow(int lie, int dx, int y) {
             int x = lie % WIDTH;
-            int y = lie / WIDTH + dy;
             if (isCell(x - dx, y) && isFreeFrom(lie, cellAt(x - dx, y))) {
                 return cellAt(x - dx, y);
             }
