@@ -147,9 +147,13 @@ public final class FairwayChancery {
             return kindOf(lie) != 'y' && distance(lie, cell) <= 4 && !isNearerCup(cell, lie) && isOpenForPenalty(cell);
         }
 
+        boolean isFreeGround(int cell) {
+            return kindOf(cell) == GROUND && cell != cup;
+        }
+
         /** Whether a cell is ground that is no nearer the cup than another one. */
         boolean isFreeFrom(int lie, int cell) {
-            return kindOf(cell) == GROUND && cell != cup && distance(cell, cup) >= distance(lie, cup);
+            return isFreeGround(cell) && distance(cell, cup) >= distance(lie, cup);
         }
 
         /** Cells are looked at by y, then x, so that of several the first one stays. */
@@ -890,10 +894,10 @@ public final class FairwayChancery {
         Ball ball = players[player].ball;
         Hole hole = holes[holeNow];
         int cell = cellAt(x, y);
-        if (!isOnFreeKind(ball)) {
+        // Ground and cup tell of a cell that it is not allowed, whatever the point, so they come ahead of it.
+        if (!isOnFreeKind(ball) || !hole.isFreeGround(cell)) {
             throw new UnsupportedOperationException("no relief without a penalty");
         }
-        // What cells are allowed follows from the point alone, so without one this is not asked.
         int point = hole.nearestPoint(ball.cell);
         if (point == NONE) {
             throw new NoSuchElementException("there is no point");

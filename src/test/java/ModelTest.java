@@ -7,6 +7,7 @@ public final class ModelTest {
 
     /** Every method is to answer this often, so that the comparison is not an empty one. */
     private static final int LEAST_SEEN = 500;
+    private static final int LEAST_WITHOUT_POINT = 200;
 
     public static void main(String[] args) {
         Map<String, Integer> seen = new TreeMap<>();
@@ -28,6 +29,8 @@ public final class ModelTest {
             Check.yes(name + " answered often: " + seen.getOrDefault(name, 0), runs < RUNS
                     || seen.getOrDefault(name, 0) >= LEAST_SEEN);
         }
+        int noPoint = seen.getOrDefault("free throws.java.util.NoSuchElementException", 0);
+        Check.yes("free met ground without a point often: " + noPoint, runs < RUNS || noPoint >= LEAST_WITHOUT_POINT);
         if (args.length > 2) {
             seen.forEach((k, v) -> System.out.println(v + " " + k));
         }
@@ -70,6 +73,10 @@ public final class ModelTest {
     }
 
     private static void areas(Driver d, int hole, int[] cup) {
+        if (d.oneIn(25)) {
+            groundAtTheCupAlone(d, hole, cup);
+            return;
+        }
         if (d.oneIn(5)) {
             d.call("area", hole, d.anyKind(), 0, 0, 29, 19);
         }
@@ -88,6 +95,15 @@ public final class ModelTest {
             d.call("area", hole, 'g', Math.max(0, cup[0] - 3), Math.max(0, cup[1] - 3), Math.min(29, cup[0] + 3),
                     Math.min(19, cup[1] + 3));
         }
+    }
+
+    /** Farther off than the ground reaches there is no point of relief. */
+    private static void groundAtTheCupAlone(Driver d, int hole, int[] cup) {
+        d.call("area", hole, d.oneIn(2) ? 'w' : 'p', 0, 0, 29, 19);
+        d.call("area", hole, '.', Math.max(0, cup[0] - 4), Math.max(0, cup[1] - 4), Math.min(29, cup[0] + 4),
+                Math.min(19, cup[1] + 4));
+        d.call("area", hole, d.anyKind(), Math.max(0, cup[0] - 2), Math.max(0, cup[1] - 4), Math.min(29, cup[0] + 1),
+                cup[1]);
     }
 
     private static boolean step(Driver d) {
@@ -243,6 +259,9 @@ public final class ModelTest {
         int[] at = d.lieOf(player);
         try {
             at = new int[] {d.theirs.point(player, true), d.theirs.point(player, false)};
+        } catch (java.util.NoSuchElementException e) {
+            at = d.inside(d.around(d.cup(), d.below(4)));
+            return d.call("free", player, at[0], at[1]);
         } catch (RuntimeException e) {
             return d.call("free", player, at[0], at[1]);
         }

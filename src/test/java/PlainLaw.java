@@ -358,11 +358,11 @@ final class PlainLaw {
         Ball b = p.ball;
         char before = isFreeToTell(b) ? h().kind(b.lie.cell) : '?';
         allow(before == 'w' || before == 'p');
+        allow(h().kind(to) == '.' && !to.equals(h().cup));
         Cell point = nearestPoint(b.lie.cell);
         if (point == null) {
             throw new NoSuchElementException();
         }
-        allow(h().kind(to) == '.' && !to.equals(h().cup));
         allow(to.to(point) <= 1 && !h().isNearer(to, point));
         relieved(b, to);
         b.penalties--;

@@ -12,6 +12,7 @@ public final class ReliefTest {
         pointRefused();
         free();
         freeRefused();
+        freeWithoutPoint();
         reliefToTheTee();
         wrongPlaces();
         wrongPlacesRefused();
@@ -332,10 +333,6 @@ public final class ReliefTest {
         Play.to(cup, 0, 15, 10);
         Play.to(cup, 0, 24, 10);
         Check.unsupported("21: the cup", () -> cup.free(0, 25, 10));
-        FairwayChancery none = lying('s', "p 0 0 29 19", ". 20 6 29 14");
-        Check.missing("21: there is no point", () -> none.free(0, 20, 10));
-        Check.missing("21: there is no point, whatever the cell", () -> none.free(0, 12, 10));
-        Check.missing("21: there is no point, whatever the cell", () -> none.free(0, 25, 10));
         FairwayChancery wrong = lying('s', "w 13 10 13 12");
         wrong.wrongPlace(0, 13, 12);
         Check.unsupported("21: in a wrong place", () -> wrong.free(0, 13, 9));
@@ -345,6 +342,31 @@ public final class ReliefTest {
         Check.bounds("21: the cell ahead of over", () -> x.free(0, 30, 10));
         Check.state("21: over", () -> x.free(0, 11, 10));
         Check.state("21: no round", () -> Play.flat(1).free(0, 11, 10));
+    }
+
+    /** What tells of a cell alone that it is not allowed is thrown ahead of there being no point. */
+    private static void freeWithoutPoint() {
+        for (String under : new String[] {"w 0 0 29 19", "p 0 0 29 19"}) {
+            FairwayChancery x = lying('s', under, ". 20 6 29 14", "g 22 8 22 8", "b 23 8 23 8", "d 24 8 24 8",
+                    "y 22 9 22 9", "r 23 9 23 9", "w 24 9 24 9", "p 22 10 22 10", "o 23 10 23 10");
+            Check.missing("21: ground, and no point", () -> x.free(0, 20, 10));
+            Check.missing("21: ground beside the cup, and no point", () -> x.free(0, 24, 10));
+            int[][] other = {{22, 8}, {23, 8}, {24, 8}, {22, 9}, {23, 9}, {24, 9}, {22, 10}, {23, 10}};
+            for (int[] c : other) {
+                Check.unsupported("21: no ground at " + c[0] + ", " + c[1] + ", ahead of no point",
+                        () -> x.free(0, c[0], c[1]));
+            }
+            Check.unsupported("21: the cup, though ground, ahead of no point", () -> x.free(0, 25, 10));
+            Check.unsupported("21: where it lies, ahead of no point", () -> x.free(0, 13, 10));
+            Check.bounds("21: no such cell, ahead of no point", () -> x.free(0, 29, 20));
+            Check.unsupported("21: not begun, ahead of no point", () -> x.free(1, 20, 10));
+            Play.lies(x, 0, 13, 10, "21: nothing changed without a point");
+        }
+        FairwayChancery all = lying('m', "w 0 0 29 19");
+        Check.unsupported("21: the cup, and not ground", () -> all.free(0, 25, 10));
+        Check.unsupported("21: not ground", () -> all.free(0, 0, 0));
+        FairwayChancery rough = lying('s', "g 0 0 29 19", ". 20 6 29 14");
+        Check.unsupported("21: on a green, ahead of no point", () -> rough.free(0, 20, 10));
     }
 
     /** A ball that relief puts back to the tee is on it; one that a stroke or the wind brings there is not. */
