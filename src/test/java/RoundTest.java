@@ -7,6 +7,7 @@ public final class RoundTest {
         orderByHonour();
         orderByScores();
         orderByDistance();
+        orderOfSix();
         strokes();
         strokesRefused();
         reaches();
@@ -172,6 +173,21 @@ public final class RoundTest {
         y.search(0);
         Play.to(y, 1, 12, 2);
         Check.same("12: lost, its spot is farther", y.away(), 0);
+    }
+
+    /** As many players as there can be, first not begun, then by distance, then done one behind the other. */
+    private static void orderOfSix() {
+        FairwayChancery x = Play.flat(6);
+        x.begin('s');
+        for (int i = 0; i < 6; i++) {
+            Check.same("12: not begun, of six", x.away(), i);
+            Play.to(x, i, 15 - i, 10);
+        }
+        for (int i = 5; i >= 0; i--) {
+            Check.same("12: the farthest of six", x.away(), i);
+            x.pickUp(i);
+        }
+        Check.missing("12: all six are done", () -> x.away());
     }
 
     private static void strokes() {
