@@ -1,8 +1,5 @@
-import java.lang.reflect.Array;
-import java.lang.reflect.Field;
 import java.lang.reflect.InvocationTargetException;
 import java.lang.reflect.Method;
-import java.lang.reflect.Modifier;
 import java.util.Arrays;
 import java.util.HashSet;
 import java.util.List;
@@ -58,7 +55,7 @@ public final class FaultTest {
         for (int i = 0; i < args.length; i++) {
             args[i] = any(method, method.getParameterTypes()[i], i, random);
         }
-        String before = all(x);
+        String before = Snapshot.of(x);
         String told = when + ": " + method.getName() + Arrays.toString(args);
         boolean isChanging = !QUESTIONS.contains(method.getName());
         try {
@@ -72,7 +69,7 @@ public final class FaultTest {
                 Check.tell(told + " threw " + cause);
             }
         }
-        if (!isChanging && !before.equals(all(x))) {
+        if (!isChanging && !before.equals(Snapshot.of(x))) {
             Check.tell(told + " changed something");
         }
     }
@@ -99,37 +96,5 @@ public final class FaultTest {
         boolean isCount = place == 0 && !method.getName().equals("hole");
         int wide = method.getName().equals("post") && place > 0 ? 200 : 20;
         return isCount ? random.nextInt(3) : random.nextInt(wide) + (wide == 200 ? 40 : 0);
-    }
-
-    /** All that the object holds, read field by field. */
-    private static String all(FairwayChancery x) throws IllegalAccessException {
-        StringBuilder told = new StringBuilder();
-        add(told, x);
-        return told.toString();
-    }
-
-    private static void add(StringBuilder told, Object of) throws IllegalAccessException {
-        for (Field field : of.getClass().getDeclaredFields()) {
-            if (Modifier.isStatic(field.getModifiers())) {
-                continue;
-            }
-            field.setAccessible(true);
-            Object value = field.get(of);
-            told.append(field.getName()).append('=');
-            if (value instanceof char[]) {
-                told.append((char[]) value);
-            } else if (value instanceof int[]) {
-                told.append(Arrays.toString((int[]) value));
-            } else if (value.getClass().isArray()) {
-                for (int i = 0; i < Array.getLength(value); i++) {
-                    add(told, Array.get(value, i));
-                }
-            } else if (field.getType().isPrimitive()) {
-                told.append(value);
-            } else {
-                add(told, value);
-            }
-            told.append(';');
-        }
     }
 }

@@ -32,6 +32,7 @@ public final class LanguageTest {
         depth(code);
         members();
         face(Files.readString(DOC));
+        rows(Files.readString(DOC));
         Check.end();
     }
 
@@ -202,6 +203,28 @@ public final class LanguageTest {
         for (String line : due) {
             Check.yes("the face has " + line, ours.containsKey(line));
         }
+    }
+
+    /** The rows "Throws" of each promise, in the order in which Refused takes them from the class. */
+    private static void rows(String doc) {
+        String[] promises = doc.split("\n## Promise \\d+: ");
+        Check.same("promises", promises.length - 1, 57);
+        int rows = 0;
+        for (int i = 2; i < promises.length; i++) {
+            String name = promises[i].substring(0, promises[i].indexOf('\n')).strip();
+            List<String> told = new java.util.ArrayList<>();
+            Matcher row = Pattern.compile("\nThrows `(\\w+)`").matcher(promises[i]);
+            while (row.find()) {
+                told.add(row.group(1));
+            }
+            List<String> ours = new java.util.ArrayList<>();
+            for (Class<?> type : Driver.ours(name).getExceptionTypes()) {
+                ours.add(type.getSimpleName());
+            }
+            Check.yes(name + " throws " + told + ", the class " + ours, told.equals(ours));
+            rows += told.size();
+        }
+        Check.yes("rows were found", rows > 100);
     }
 
     private static String simple(String line) {
