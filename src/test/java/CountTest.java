@@ -16,6 +16,9 @@ public final class CountTest {
         skins();
         skinsThatWait();
         signedCards();
+        lowerOnEachHole();
+        penaltiesOnEachHole();
+        postedCard();
         differences();
         meansOfEachCount();
         oldestLeaves();
@@ -249,6 +252,56 @@ public final class CountTest {
         }
         Check.same("46: the highest", x.rank(0), 6);
         Check.same("48: but one", x.cut(5), 5);
+    }
+
+    /** A lower score on any of nine holes, the first and the last one too; a higher one on another does not help. */
+    private static void lowerOnEachHole() {
+        for (int hole = 0; hole < 9; hole++) {
+            for (int score = 1; score <= 3; score++) {
+                FairwayChancery x = Play.shortHoles(9, 1);
+                x.begin('s');
+                for (int i = 0; i < 9; i++) {
+                    Play.holeOut(x, 2);
+                }
+                x.write(0, (hole + 4) % 9, 3);
+                x.write(0, hole, score);
+                Check.yes("40: " + score + " for 2 on the hole " + hole, x.sign(0) == score >= 2);
+                Check.yes("35: " + score + " for 2 on the hole " + hole, x.isOut(0) == score < 2);
+            }
+        }
+    }
+
+    private static void penaltiesOnEachHole() {
+        FairwayChancery x = Play.shortHoles(9, 1);
+        x.begin('s');
+        for (int hole = 0; hole < 9; hole++) {
+            Play.to(x, 0, 12, 12);
+            for (int i = 0; i <= hole; i++) {
+                x.move(0, 'p', 0, 0);
+            }
+            Play.to(x, 0, 13, 10);
+            x.nextHole();
+            int penalties = (hole + 1) * (hole + 2) / 2;
+            Check.same("55: so far", x.penaltyShare(0), (float) penalties / (float) (penalties + 2 * hole + 2));
+        }
+    }
+
+    /** Posting takes nothing from the card. */
+    private static void postedCard() {
+        FairwayChancery x = Play.shortHoles(1, 2);
+        x.begin('s');
+        Play.holeOut(x, 2, 3);
+        x.sign(0);
+        x.sign(1);
+        x.post(0, 100, 113);
+        Check.no("35: not out by it", x.isOut(0));
+        Check.same("46: a rank still", x.rank(0), 1);
+        Check.same("46: less still", x.rank(1), 2);
+        Check.yes("47: ahead still", x.isAhead(0, 1));
+        Check.same("48: made still", x.cut(2), 2);
+        Refused.by("u", x, "sign", 0);
+        Refused.by("u", x, "write", 0, 0, 5);
+        Check.same("50: the other one's", x.post(1, 100, 113), -70);
     }
 
     private static FairwayChancery poster() {

@@ -16,6 +16,8 @@ public final class LimitTest {
         searchNumbers();
         asideOnAllCells();
         lineOnAllTimes();
+        lineByTheGreatestDivisors();
+        kindsOfCells();
         freeOnAllCells();
         quarters();
         farthestOfSeveral();
@@ -268,25 +270,79 @@ public final class LimitTest {
         }
     }
 
-    /** The lies differ from the cup by 12 and 0, 8 and 4, 5 and 3, 1 and 4, 2 and 2. */
+    /** The lies differ from the cup by 12 and 0, 8 and 4, 5 and 3, 1 and 4, 2 and 2: each step is told behind it. */
     private static void lineOnAllTimes() {
-        int[][] lies = {{13, 10, 1, 0}, {17, 6, 2, 1}, {20, 7, 5, 3}, {24, 6, 1, 4}, {23, 12, 1, -1}};
+        int[][] lies = {{13, 10, 1, 0}, {17, 6, 2, 1}, {20, 7, 5, 3}, {24, 6, 1, 4}, {23, 12, 1, -1}, {25, 7, 0, 1}};
         for (int[] lie : lies) {
-            for (int times = 1; times <= 9; times++) {
-                FairwayChancery x = new FairwayChancery();
-                x.hole(4, 1, 25, 10, 15, 10);
-                x.player();
-                x.begin('s');
-                Play.to(x, 0, lie[0], lie[1]);
-                int cell = lie[0] - times * lie[2];
-                int y = lie[1] - times * lie[3];
-                if (cell >= 0 && y >= 0 && y < 20) {
-                    Check.same("18: " + times + " times", x.line(0, times), 2);
-                    Play.lies(x, 0, cell, y, "18: " + times + " times");
-                } else {
-                    Refused.by("u", x, "line", 0, times);
-                }
+            line(25, 10, 16, 8, lie);
+        }
+    }
+
+    /** Divisors from 20 up to 29, the greatest that there can be, to both sides, and 19 upwards. */
+    private static void lineByTheGreatestDivisors() {
+        for (int x = 0; x <= 9; x++) {
+            line(29, 10, 5, 8, new int[] {x, 10, 1, 0});
+            line(0, 10, 24, 12, new int[] {29 - x, 10, -1, 0});
+        }
+        for (int y = 0; y <= 9; y++) {
+            line(5, 19, 8, 6, new int[] {5, y, 0, 1});
+            line(5, 0, 8, 13, new int[] {5, 19 - y, 0, -1});
+        }
+        // 28 and 14 by 14, 29 and 19 by 1.
+        line(29, 16, 5, 4, new int[] {1, 2, 2, 1});
+        line(29, 19, 5, 4, new int[] {0, 0, 29, 19});
+    }
+
+    private static void line(int cupX, int cupY, int teeX, int teeY, int[] lie) {
+        for (int times = 1; times <= 9; times++) {
+            FairwayChancery x = new FairwayChancery();
+            x.hole(4, 1, cupX, cupY, teeX, teeY);
+            x.player();
+            x.begin('s');
+            Play.to(x, 0, lie[0], lie[1]);
+            int cell = lie[0] - times * lie[2];
+            int y = lie[1] - times * lie[3];
+            if (cell >= 0 && cell < 30 && y >= 0 && y < 20) {
+                Check.same("18: " + times + " times", x.line(0, times), 2);
+                Play.lies(x, 0, cell, y, "18: " + times + " times");
+            } else {
+                Refused.by("u", x, "line", 0, times);
             }
+        }
+    }
+
+    /** Which kinds each way of coming to a cell allows; the cup is refused though it be of any kind. */
+    private static void kindsOfCells() {
+        for (char kind : KINDS.toCharArray()) {
+            boolean isOpen = kind != 'o';
+            boolean isOpenForPenalty = isOpen && kind != 'y' && kind != 'r';
+            comes(kind, isOpenForPenalty, "line", 0, 1);
+            comes(kind, isOpenForPenalty, "aside", 0, 22, 10);
+            comes(kind, isOpen, "wrongPlace", 0, 22, 10);
+            comes(kind, isOpen, "move", 0, 'w', 22, 10);
+            comes(kind, false, "aside", 0, 25, 10);
+            comes(kind, false, "wrongPlace", 0, 25, 10);
+            comes(kind, false, "move", 0, 'w', 25, 10);
+            comes(kind, false, "free", 0, 25, 10);
+        }
+    }
+
+    /** A ball at 23, 10, beside 22, 10, with this kind there and in the cup at 25, 10. */
+    private static void comes(char kind, boolean isAllowed, String name, Object... args) {
+        FairwayChancery x = new FairwayChancery();
+        x.hole(4, 1, 25, 10, 20, 5);
+        x.area(0, kind, 22, 10, 22, 10);
+        x.area(0, kind, 25, 10, 25, 10);
+        x.area(0, 'w', 23, 10, 23, 10);
+        x.player();
+        x.begin('s');
+        Play.to(x, 0, 23, 10);
+        if (isAllowed) {
+            String answer = Driver.answer(x, Driver.ours(name), args);
+            Check.no(name + " to " + kind + " answered " + answer, answer.startsWith("throws."));
+            Play.lies(x, 0, 22, 10, name + " to " + kind);
+        } else {
+            Refused.by("u", x, name, args);
         }
     }
 
@@ -354,6 +410,10 @@ public final class LimitTest {
         Check.same("12: 145 ahead of 144", x.away(), 2);
         x.pickUp(2);
         Check.same("12: 144", x.away(), 0);
+        x.wrongPlace(0, 22, 10);
+        Check.same("12: 25 ahead of 9, in a wrong place", x.away(), 1);
+        x.pickUp(1);
+        Check.same("12: 9", x.away(), 0);
     }
 
     /** So many holes are won one behind the other, till the match is over, which it is not one hole ahead of it. */
@@ -475,9 +535,26 @@ public final class LimitTest {
             Check.same("51: all that are kept", x.difference(0, 0), 200 - a[1]);
             Check.same("51: itself too", x.difference(0, 1), 200 - a[0] - a[1]);
         }
+        takenOffByTheIndex(26, 0);
+        takenOffByTheIndex(25, 10);
+        takenOffByTheIndex(-4, 10);
+        takenOffByTheIndex(-5, 20);
         FairwayChancery first = poster();
         bring(first, -380);
         Check.same("51: the first one has no index ahead of it", first.difference(0, 0), -380);
+    }
+
+    /** The index is 95 ahead of it, the low index 90. */
+    private static void takenOffByTheIndex(int difference, int off) {
+        FairwayChancery x = poster();
+        for (int i = 0; i < 6; i++) {
+            bring(x, i == 1 ? 90 : 100);
+        }
+        Check.same("52: the mean", x.index(0), 95);
+        Check.same("53: the low index", x.lowIndex(0), 90);
+        bring(x, difference);
+        Check.same("51: by the index, not the low index", x.difference(0, 0), 100 - off);
+        Check.same("51: itself too", x.difference(0, 6), difference - off);
     }
 
     /** The index ahead is 100, the low index too; twenty differences of this height then make the index. */

@@ -3,6 +3,7 @@ public final class MatchTest {
     public static void main(String[] args) {
         cancels();
         cancelsAllOfTheBall();
+        cancelsOffTheTee();
         cancelsSoughtAndHoled();
         cancelRefused();
         whatEndsCancelling();
@@ -84,6 +85,31 @@ public final class MatchTest {
         Check.no("28: it lay on the tee", y.cancel(1));
         Check.unsupported("28: on the tee again", () -> y.line(1, 1));
         Check.same("28: on the tee again", Play.to(y, 1, 15, 10), 'l');
+    }
+
+    /** A ball that lay off the tee, played there from the tee, lies off it again. */
+    private static void cancelsOffTheTee() {
+        FairwayChancery x = Play.flat(2);
+        x.begin('m');
+        Play.to(x, 0, 8, 10);
+        Play.to(x, 1, 12, 10);
+        Play.to(x, 1, 15, 10);
+        Check.no("28: out of order", x.cancel(1));
+        Check.unsupported("13: beyond the reach of its lie", () -> x.stroke(1, 23, 10));
+        Check.same("18: off the tee", x.line(1, 1), 2);
+        Play.lies(x, 1, 11, 10, "18: off the tee");
+        Check.unsupported("23: no breach came of it", () -> x.correct(1));
+        Check.no("22: nor is a wrong place refused", x.wrongPlace(1, 11, 11));
+        x.pickUp(0);
+        x.pickUp(1);
+        x.nextHole();
+        Check.no("35: nor is anybody out", x.isOut(1));
+        FairwayChancery y = match(1);
+        Play.to(y, 1, 8, 10);
+        y.cancel(1);
+        Check.unsupported("23: no breach came of it", () -> y.correct(1));
+        Play.holeOut(y, 1, 1);
+        Check.no("35: nor is anybody out", y.isOut(1));
     }
 
     private static void cancelsSoughtAndHoled() {

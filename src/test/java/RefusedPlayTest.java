@@ -22,6 +22,7 @@ public final class RefusedPlayTest {
         noCauses();
         noThings();
         whileSuspended();
+        allElseWhileSuspended();
         awayWhenAllAreDone();
         strokes();
         aims();
@@ -209,6 +210,44 @@ public final class RefusedPlayTest {
         Refused.by("su", x, "search", 1);
         Refused.by("bs", x, "provisional", -1, 10, 10);
         Refused.by("bs", x, "search", 2);
+    }
+
+    /** No call but a stroke, a provisional ball and a search is refused because play is suspended. */
+    private static void allElseWhileSuspended() {
+        FairwayChancery x = Play.flat(2);
+        x.area(0, 'w', 13, 10, 13, 10);
+        x.begin('s');
+        Play.to(x, 0, 13, 10);
+        Play.to(x, 1, 13, 13);
+        x.suspend(true);
+        Check.same("11: the hole", x.holeOn(), 0);
+        Check.same("12: who plays next", x.away(), 1);
+        Check.same("14: the odds", x.odds(0, 14, 10, '.'), 8);
+        Check.same("20: the point", x.point(0, false), 9);
+        Check.same("21: free", x.free(0, 13, 9), 'w');
+        Check.same("18: the line", x.line(1, 1), 2);
+        Check.same("19: aside", x.aside(0, 12, 9), 2);
+        Check.same("24: moved", x.move(0, 'w', 13, 11), 2);
+        Check.same("25: a wrong ball", x.wrongBall(1, 0), 4);
+        Check.yes("22: a wrong place", x.wrongPlace(0, 24, 10));
+        Check.yes("27: resumed", x.suspend(false));
+        Play.to(x, 0, 24, 11);
+        Check.no("27: suspended", x.suspend(true));
+        Check.same("23: corrected", x.correct(0), 4);
+        Check.same("17: again", x.again(0), 5);
+        Check.same("31: the state", x.state(0), 'l');
+        Check.same("32: the tee", x.lie(0, true), 3);
+        Check.same("33: strokes", x.strokes(0), 1);
+        Check.same("34: penalties", x.penalties(0), 4);
+        Check.same("26: picked up", x.pickUp(0), 1);
+        Check.same("26: picked up", x.pickUp(1), 0);
+        Check.same("30: the end", x.nextHole(), 1);
+        x.begin('m');
+        Play.to(x, 1, 12, 12);
+        x.suspend(true);
+        Check.yes("28: cancelled", x.cancel(1));
+        Check.same("29: conceded", x.concede(0, 'm'), 0);
+        Check.same("29: conceded", x.concede(0, 'h'), -1);
     }
 
     private static void awayWhenAllAreDone() {

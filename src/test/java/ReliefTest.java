@@ -573,6 +573,7 @@ public final class ReliefTest {
         lost.correct(0);
         Play.to(lost, 0, 8, 0, 1, 0, -1);
         Check.same("16: nor for the next search", lost.search(0), 'x');
+        Check.same("16: nor does one count", lost.strokes(0) * 10 + lost.penalties(0), 22);
         FairwayChancery tee = new FairwayChancery();
         tee.hole(4, 1, 13, 10, 11, 10);
         tee.player();

@@ -466,6 +466,15 @@ public final class RoundTest {
         Play.to(tee, 0, 0, 10, 1, -1, 0);
         Check.unsupported("15: beyond the reach of the tee", () -> tee.provisional(0, 15, 11));
         Check.same("15: the reach of the tee", provisional(tee, 15, 10, 1, 1), 'l');
+        for (char kind : new char[] {'d', 'g', 'y'}) {
+            FairwayChancery on = Play.flat(1);
+            on.area(0, kind, 3, 10, 3, 10);
+            on.begin('s');
+            Play.to(on, 0, 0, 10, 1, -1, 0);
+            Check.same("15: the tee, whatever its kind", provisional(on, 3, 13, 1, -1), 'l');
+            on.search(0);
+            Play.lies(on, 0, 4, 12, "15: the spread of the tee, whatever its kind");
+        }
         FairwayChancery red = Play.flat(1);
         red.area(0, 'r', 3, 4, 3, 4);
         red.begin('s');
